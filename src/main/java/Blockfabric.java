@@ -400,7 +400,7 @@ public final class Blockfabric {
     public int way(int from, int to) throws IndexOutOfBoundsException {
         needIndex(from, SWITCHES);
         needIndex(to, SWITCHES);
-        return net.nextSwitch(from, to);
+        return net.ways[from][to];
     }
 
     public int far(int from, int to) throws IndexOutOfBoundsException {
@@ -671,7 +671,7 @@ public final class Blockfabric {
         long d = start;
         for (int host = 0; host < HOSTS; host++) {
             for (int volume = 0; volume < VOLUMES; volume++) {
-                d = mix(d, path(host, volume));
+                d = mix(d, net.bestPort(host, volume));
             }
             for (int tag = 0; tag < TAGS; tag++) {
                 d = mix(d, tellAnswer(host, tag).length());
@@ -909,17 +909,15 @@ public final class Blockfabric {
         final int course;
         final int number;
         final boolean isAck;
+        final int target;
 
         Frame(Exchange exchange, int course, int number, boolean isAck) {
             this.exchange = exchange;
             this.course = course;
             this.number = number;
             this.isAck = isAck;
-        }
-
-        /** Acks are told by the sequence of their frame, but go against it. */
-        int target() {
-            return (course == FORTH) != isAck ? exchange.port : exchange.host;
+            // Acks are told by the sequence of their frame, but go against it.
+            target = (course == FORTH) != isAck ? exchange.port : exchange.host;
         }
 
         boolean mayLeave() {
@@ -941,12 +939,15 @@ public final class Blockfabric {
             return count;
         }
 
-        static void dropOf(ArrayList<Frame> frames, Exchange exchange) {
-            for (int i = frames.size() - 1; i >= 0; i--) {
+        /** Answers how many were dropped. */
+        static int dropOf(ArrayList<Frame> frames, Exchange exchange) {
+            int before = frames.size();
+            for (int i = before - 1; i >= 0; i--) {
                 if (frames.get(i).exchange == exchange) {
                     frames.remove(i);
                 }
             }
+            return before - frames.size();
         }
 
         static void tellAll(ArrayList<Frame> frames, StringBuilder text) {
@@ -986,12 +987,6 @@ public final class Blockfabric {
             frames.remove(0);
             credits++;
             return oldest;
-        }
-
-        void dropOf(Exchange exchange) {
-            int before = frames.size();
-            Frame.dropOf(frames, exchange);
-            credits += before - frames.size();
         }
 
         void dropAll() {
@@ -1052,6 +1047,7 @@ public final class Blockfabric {
         /** 0 without a link. */
         final int[][] costs = new int[SWITCHES][SWITCHES];
         final int[][] far = new int[SWITCHES][SWITCHES];
+        final int[][] ways = new int[SWITCHES][SWITCHES];
         final int[] zones = new int[ZONES];
         final Node[] nodes = new Node[NODES];
         /** Those from nodes, those to nodes, then those from switch to switch. */
@@ -1064,6 +1060,7 @@ public final class Blockfabric {
                 domain[which] = 1;
                 for (int to = 0; to < SWITCHES; to++) {
                     far[which][to] = which == to ? 0 : APART;
+                    ways[which][to] = which == to ? to : NONE;
                 }
             }
             for (int node = 0; node < NODES; node++) {
@@ -1181,7 +1178,7 @@ public final class Blockfabric {
             return costs[one][other] != 0 && up[one] && up[other];
         }
 
-        void findWays() {
+        private void measure() {
             for (int from = 0; from < SWITCHES; from++) {
                 for (int to = 0; to < SWITCHES; to++) {
                     int direct = isAlive(from, to) ? costs[from][to] : APART;
@@ -1197,7 +1194,16 @@ public final class Blockfabric {
             }
         }
 
-        int nextSwitch(int from, int to) {
+        void findWays() {
+            measure();
+            for (int from = 0; from < SWITCHES; from++) {
+                for (int to = 0; to < SWITCHES; to++) {
+                    ways[from][to] = nextSwitch(from, to);
+                }
+            }
+        }
+
+        private int nextSwitch(int from, int to) {
             if (from == to) {
                 return to;
             }
@@ -1292,8 +1298,9 @@ public final class Blockfabric {
         }
 
         private boolean shareZone(int one, int other) {
+            int both = 1 << one | 1 << other;
             for (int zone = 0; zone < ZONES; zone++) {
-                if (has(zones[zone], one) && has(zones[zone], other)) {
+                if ((zones[zone] & both) == both) {
                     return true;
                 }
             }
@@ -1336,12 +1343,11 @@ public final class Blockfabric {
 
         /** A switch, or above these the node; NONE without a way. */
         int nextStep(int at, Frame frame) {
-            int target = frame.target();
-            int end = nodes[target].at;
+            int end = nodes[frame.target].at;
             if (end == NONE) {
                 return NONE;
             }
-            return end == at ? SWITCHES + target : nextSwitch(at, end);
+            return end == at ? SWITCHES + frame.target : ways[at][end];
         }
 
         /** The line into a switch whose oldest frame takes this step; null without. */
@@ -1391,7 +1397,7 @@ public final class Blockfabric {
                 Frame.dropOf(nodes[node].waiting, exchange);
             }
             for (int i = 0; i < lines.length; i++) {
-                lines[i].dropOf(exchange);
+                lines[i].credits += Frame.dropOf(lines[i].frames, exchange);
             }
         }
 
@@ -1526,7 +1532,7 @@ public final class Blockfabric {
             int sum = 0;
             int at = from;
             for (int i = 0; i < SWITCHES && at != to && at != NONE; i++) {
-                int next = nextSwitch(at, to);
+                int next = ways[at][to];
                 sum += next == NONE ? APART : costs[at][next];
                 at = next;
             }
@@ -1567,7 +1573,7 @@ public final class Blockfabric {
         /** What the array answered; it counts only as the exchange is done. */
         int status = NONE;
         int age;
-        /** Of each sequence: how many frames it has, which of them were taken, how many left the row, and acks taken. */
+        /** Of each sequence: its frames, which of them were taken, how many left the row, acks taken. */
         final int[] lengths = new int[2];
         final int[] taken = new int[2];
         final int[] left = new int[2];
@@ -2044,16 +2050,17 @@ public final class Blockfabric {
 
         /** One of the two always is, since none breaks without the other one. */
         Side currentSide() {
-            return sides[0].isCurrent() ? sides[0] : sides[1];
+            return sides[0].isFit && sides[0].isInStep ? sides[0] : sides[1];
         }
 
         void storeBlock(int block, int value) {
             stored[block] = value;
             for (int i = 0; i < SIDES; i++) {
-                if (sides[i].isCurrent()) {
-                    sides[i].values[block] = value;
+                Side side = sides[i];
+                if (side.isFit && side.isInStep) {
+                    side.values[block] = value;
                 } else {
-                    sides[i].marks |= 1 << block;
+                    side.marks |= 1 << block;
                 }
             }
         }
