@@ -1954,9 +1954,8 @@ public final class Blockfabric {
             }
         }
 
-        void discard(int key) {
-            int place = placeOf(key);
-            if (place == NONE) {
+        void discard(int place) {
+            if (place >= cached) {
                 return;
             }
             cached--;
@@ -2156,12 +2155,12 @@ public final class Blockfabric {
             }
         }
 
-        /** Stores what a cache holds at a place; the block goes out of both caches. */
+        /** Stores what a cache holds at a place; it goes out of both, since both hold the same in one sequence. */
         private void storeCached(Controller from, int place) {
             int key = from.keys[place];
             volumes[key / BLOCKS].storeBlock(key % BLOCKS, from.values[place]);
-            controllers[0].discard(key);
-            controllers[1].discard(key);
+            controllers[0].discard(place);
+            controllers[1].discard(place);
         }
 
         int storeFirst(int which, int many) {
