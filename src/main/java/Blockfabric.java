@@ -1536,7 +1536,8 @@ public final class Blockfabric {
                 sum += next == NONE ? APART : costs[at][next];
                 at = next;
             }
-            return Math.min(sum, APART) == shortestRow(from, to) && (at == to || sum == APART);
+            int least = shortestRow(from, to);
+            return far[from][to] == least && Math.min(sum, APART) == least && (at == to || sum == APART);
         }
 
         /** Over all rows of switches from one to the other: alone, by one, or by two others. */
