@@ -192,7 +192,7 @@ public final class CommandsTest {
         runs.each("promises 11 to 13: wrong blocks, values and kinds, also where the call would be refused",
             HOUSE + "; read 0 0 0 0 1", ARGUMENT,
             "read 0 0 0 -1 1", "read 0 1 0 8 1", "read 0 1 0 0 0", "read 0 1 0 0 5", "read 0 1 0 5 4", "read 0 1 0 7 2",
-            "read 0 1 0 2147483647 4", "read 0 1 0 4 2147483647", "write 0 0 0 -1 1 0", "write 0 1 0 8 1 0",
+            "read 0 1 0 -1 4", "read 0 1 0 -3 4", "write 0 1 0 -1 2 0", "read 0 1 0 2147483647 4", "read 0 1 0 4 2147483647", "write 0 0 0 -1 1 0", "write 0 1 0 8 1 0",
             "write 0 1 0 0 0 0", "write 0 1 0 0 5 0", "write 0 1 0 6 3 0", "write 0 1 0 0 1 -1", "write 0 1 0 0 1 1000",
             "control 0 0 0 1", "control 0 1 0 0", "control 0 1 0 7", "control 0 1 0 -1");
         runs.each("promises 14 and 15: no such host or tag", HOUSE, INDEX,

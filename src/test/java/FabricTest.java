@@ -4,6 +4,10 @@ public final class FabricTest {
     private static final String ARGUMENT = "IllegalArgumentException";
     private static final String STATE = "IllegalStateException";
 
+    /** Host 0 at the switch 0, port 4 at the switch 2; the way between them goes over the switch 1, or else by a dear link. */
+    private static final String TWO_WAYS = "link 0 1 1; link 1 2 1; link 0 2 9; attach 0 0; attach 4 2; zone 0 0 true;"
+        + "zone 0 4 true; login 0; login 4";
+
     public static void main(String[] args) {
         Runs runs = new Runs();
         made(runs);
@@ -99,6 +103,14 @@ public final class FabricTest {
             "leak 2 1 0; control 0 0 0 4 = 1; control 2 0 0 4 = 2; tick 1 = 4; buffer 2 0 1 = 1>0; buffer 2 2 1 = 2>0",
             "ofSwitch 1 5 = 2; fall 1 = 2; ofSwitch 1 5 = 0; house 8 = 0; house 12 = 5; credits 2 0 1 = 1",
             "credits 2 2 1 = 2; credits 1 4 0 = 0; credits 2 1 0 = 1; told 0 0 = lost; told 2 0 = lost; recover = 5");
+        runs.run("promise 4: frames on their way through a switch that falls are dropped, though their nodes see each other",
+            TWO_WAYS, "leak 2 1 2; leak 2 1 2; control 0 0 0 4 = 1; tick 1 = 2; buffer 2 0 1 = 1>0; link 3 0 1; fall 3",
+            "buffer 2 0 1 = 1>0; fall 1 = 0; buffer 2 0 1 =; credits 2 0 1 = 2; house 8 = 0; told 0 0 = open; tick 5 = 0",
+            "control 0 1 0 4 = 2; tick 3; told 0 1 = good");
+        runs.run("promise 4: likewise those that crossed it just now, and no others",
+            TWO_WAYS, "leak 1 4 0; leak 1 4 0; write 0 0 0 0 1 5 = 1; tick 1 = 3; buffer 2 1 2 = 1>0; leak 2 0 1; leak 2 0 1",
+            "tick 1 = 1; buffer 0 0 0 = 1>1; fall 1 = 0; buffer 2 1 2 =; credits 2 1 2 = 2; buffer 0 0 0 = 1>1; house 8 = 1",
+            "recover; tick 2; told 0 0 = lost");
         runs.run("promise 4: others go on, and a line of a switch that is down is crossed by none",
             Runs.PAIR, "attach 6 0; zone 0 6 true; login 6; path 0 0 = 4; fall 1 = 2; path 0 0 = 6; control 0 0 0 4 = 1",
             "control 1 0 1 4 = 2; tick 3; told 0 0 = good; told 1 0 = open; tick 1; told 1 0 = good; fall 0 = 3",

@@ -93,7 +93,7 @@ public final class FramesTest {
         runs.run("promises 42, 43 and 45: buffers fill up from their end, and without a credit nothing crosses",
             Runs.PAIR, "leak 1 4 0 = 1; leak 1 4 0 = 2; write 0 0 0 0 4 7 = 1; tick 2 = 4; buffer 2 0 1 = 1>0 1>1",
             "credits 2 0 1 = 0; credits 2 1 0 = 2; buffer 2 1 0 =; tick 2 = 2; buffer 0 0 0 = 1>2 1>3; credits 0 0 0 = 0",
-            "row 0 = 1>4; tick 1 = 0; row 0 = 1>4; ofExchange 1 8 = 5; ofSwitch 0 5 = 2; ofSwitch 1 5 = 2; recover = 2",
+            "row 0 = 1>4; tick 1 = 0; row 0 = 1>4; ofExchange 1 8 = 5; house 8 = 5; ofSwitch 0 5 = 2; ofSwitch 1 5 = 2; recover = 2",
             "tick 1 = 1; row 0 = 1>4; buffer 0 0 0 = 1>2 1>3; buffer 2 0 1 = 1>1; buffer 1 4 0 = 1>0; tick 1 = 2",
             "row 0 = 1>4; buffer 0 0 0 = 1>3; buffer 2 0 1 = 1>2; buffer 1 4 0 = 1>1; credits 1 4 0 = 1; tick 1 = 3",
             "row 0 =; buffer 0 0 0 = 1>4; buffer 2 0 1 = 1>3; buffer 1 4 0 = 1>2; ofExchange 1 9 = 2");
@@ -189,6 +189,14 @@ public final class FramesTest {
             "unlink 0 1 = 1; buffer 2 1 2 = 1>0 1>1; told 0 0 = open; tick 1 = 0; buffer 2 1 2 =; credits 2 1 2 = 2",
             "ofExchange 1 8 = 0; told 0 0 = open; tick 20; tick 6; told 0 0 = open; tick 1; told 0 0 = lost; again 0 0 = 2",
             "tick 5; told 0 0 = good");
+        runs.run("promise 22: likewise at the switch 0, and behind the line from it",
+            "link 2 1 1; link 1 0 1; link 0 3 1; attach 0 2; attach 4 3; zone 0 0 true; zone 0 4 true; login 0; login 4",
+            "leak 2 0 3; leak 2 0 3; control 0 0 0 4 = 1; tick 2 = 3; buffer 2 1 0 = 1>0; link 2 3 9; unlink 0 3; unlink 2 1",
+            "tick 1 = 0; buffer 2 1 0 =; credits 2 1 0 = 2; told 0 0 = open; house 8 = 0");
+        runs.run("promise 22: likewise of a line that begins at the switch 0",
+            "link 1 0 1; link 0 2 1; link 2 3 1; attach 0 1; attach 4 3; zone 0 0 true; zone 0 4 true; login 0; login 4",
+            "leak 2 2 3; leak 2 2 3; control 0 0 0 4 = 1; tick 2 = 3; buffer 2 0 2 = 1>0; link 1 3 9; unlink 2 3; unlink 1 0",
+            "tick 1 = 0; buffer 2 0 2 =; credits 2 0 2 = 2; told 0 0 = open; house 8 = 0");
         runs.run("promise 22: one that has another way goes that",
             "link 0 1 1; link 1 2 1; link 2 3 1; attach 0 0; attach 4 3; zone 0 0 true; zone 0 4 true; login 0; login 4",
             "leak 2 2 3; leak 2 2 3; control 0 0 0 4 = 1; tick 1 = 3; link 0 3 9; unlink 2 3; tick 1 = 1; buffer 2 2 1 = 1>0",

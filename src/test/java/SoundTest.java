@@ -38,8 +38,10 @@ public final class SoundTest {
     private void sight() {
         Blockfabric x = made(Runs.PAIR + ";" + BUSY);
         broken("a node sees what was not looked at", x, "net.nodes.1.seen", 1);
+        broken("the first node sees nobody by that", x, "net.nodes.0.seen", 0);
         broken("a node that is not logged in has seen", x, "net.nodes.7.seen", 1);
         broken("two domains of a fabric are alike", x, "net.domain.1", 1);
+        broken("the first one is like another one", x, "net.domain.0", 2);
         broken("a frame of nodes that do not see each other", x, "net.zones.0", 0, "net.nodes.0.seen", 0,
             "net.nodes.1.seen", 0, "net.nodes.4.seen", 0, "net.nodes.5.seen", 0);
     }
@@ -48,6 +50,8 @@ public final class SoundTest {
         Blockfabric x = made(Runs.PAIR + ";" + BUSY + "; tick 3");
         broken("a frame of an exchange that is lost", x, "traffic.exchanges.0.state", 2);
         broken("three frames left without acks", x, "traffic.exchanges.0.left.0", 9);
+        Blockfabric late = made(Runs.PAIR + "; manner 0 true false; write 0 0 0 0 4 7; tick 5");
+        broken("what left is counted, and what was told of it", late, "traffic.exchanges.0.acks.0", 0);
         broken("a gap in what was taken", x, "traffic.exchanges.0.taken.0", 5);
         broken("a gap in the second sequence", x, "traffic.exchanges.0.taken.1", 2);
         twice("a frame is there twice in a row", x, "net.nodes.0.waiting");
@@ -72,7 +76,9 @@ public final class SoundTest {
         unsound("an urgent command behind one that is not", x);
         queue.remove(urgent);
         sound("an urgent command behind one that is not", x);
-        queue.addAll(List.of(plain, plain, plain));
+        queue.add(plain);
+        sound("three commands", x);
+        queue.add(plain);
         unsound("more than three commands", x);
     }
 
@@ -81,6 +87,7 @@ public final class SoundTest {
         broken("a way that is longer", x, "net.ways.0.2", 2);
         broken("a way that goes in a circle", x, "net.ways.1.3", 0);
         broken("no way where one is", x, "net.ways.0.3", -1);
+        broken("no way to the first switch", x, "net.ways.3.0", -1);
         broken("a sum that is not the least", x, "net.far.0.3", 11);
         Blockfabric apart = made("link 0 1 1");
         broken("a way where none is", apart, "net.ways.0.2", 1);
@@ -90,6 +97,7 @@ public final class SoundTest {
     private void caches() {
         Blockfabric x = made(Runs.PAIR + ";" + CACHED);
         broken("another value in one cache", x, "store.controllers.1.values.1", 9);
+        broken("another value in the first place of one cache", x, "store.controllers.1.values.0", 9);
         broken("another block in one cache", x, "store.controllers.1.keys.1", 31);
         broken("a shorter cache", x, "store.controllers.1.cached", 1);
         broken("a value that no command wrote", x, "store.controllers.0.values.1", 9, "store.controllers.1.values.1", 9);
@@ -105,6 +113,7 @@ public final class SoundTest {
         broken("both sides have what was not stored", x, "store.volumes.0.sides.0.values.1", 9,
             "store.volumes.0.sides.1.values.1", 9);
         broken("a side that is not in step is unlike without a mark", x, "store.volumes.1.sides.1.values.3", 9);
+        broken("likewise at the first block", x, "store.volumes.1.sides.1.values.0", 9);
         broken("no side is fit and in step", x, "store.volumes.2.sides.0.isInStep", false,
             "store.volumes.2.sides.1.isFit", false);
         broken("a value that no command wrote", x, "store.volumes.3.written.7", 9);
