@@ -80,6 +80,8 @@ public final class FabricTest {
             "ofSwitch 3 2 = 2; link 1 2 1; ofSwitch 0 2 = 2; ofSwitch 1 2 = 1; ofSwitch 2 2 = 3; ofSwitch 3 2 = 4");
         runs.run("a domain is free if none of the fabric has it, looked at or not",
             "link 0 2 1; ofSwitch 2 2 = 2; link 0 1 1; ofSwitch 1 2 = 3; ofSwitch 2 2 = 2; ofSwitch 0 2 = 1");
+        runs.run("the smallest free domain may be 1",
+            "link 0 1 1; link 2 3 1; unlink 0 1; unlink 2 3; link 1 3 1; ofSwitch 1 2 = 2; ofSwitch 3 2 = 1; ofSwitch 1 3 = 1");
         runs.run("a node of a switch that gets another domain is logged out, one of another switch is not",
             "attach 0 0; attach 1 1; zone 0 0 true; zone 0 1 true; login 0 = 100; login 1 = 101; link 0 1 1 = -1",
             "address 0 = 100; address 1 = -1; house 3 = 1; names 0 =; login 1 = 201; names 0 = 201; names 1 = 100",

@@ -49,6 +49,8 @@ public final class SoundTest {
     private void exchanges() {
         Blockfabric x = made(Runs.PAIR + ";" + BUSY + "; tick 3");
         broken("a frame of an exchange that is lost", x, "traffic.exchanges.0.state", 2);
+        Blockfabric first = made(Runs.PAIR + "; leak 2 0 1; leak 2 0 1; control 0 0 0 4; tick 1");
+        broken("a frame of an exchange that is lost, in the first line", first, "traffic.exchanges.0.state", 2);
         broken("three frames left without acks", x, "traffic.exchanges.0.left.0", 9);
         Blockfabric late = made(Runs.PAIR + "; manner 0 true false; write 0 0 0 0 4 7; tick 5");
         broken("what left is counted, and what was told of it", late, "traffic.exchanges.0.acks.0", 0);
@@ -67,6 +69,8 @@ public final class SoundTest {
     private void queues() {
         Blockfabric x = made(Runs.BOTH_PORTS + "; manner 1 false true; control 0 0 0 4; control 0 1 0 4; control 0 2 0 4;"
             + "control 1 0 0 4; control 1 1 0 4; tick 3");
+        sound("an urgent command is the first one", made(Runs.BOTH_PORTS + "; manner 0 false true; manner 1 false true;"
+            + "control 0 0 0 4; control 1 0 0 4; tick 2"));
         List<Object> queue = list(x, "store.controllers.0.queued");
         List<Object> before = new ArrayList<>(queue);
         Object plain = before.get(0);

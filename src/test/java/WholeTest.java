@@ -18,6 +18,8 @@ public final class WholeTest {
         test.checksum(Runs.PAIR + "; read 0 0 0 0 4; write 1 3 1 2 2 999; tick 1; copy 2 1; breakSide 3 1; deny 3 2 true");
         test.checksum(Runs.PAIR + "; manner 0 true true; write 0 0 0 0 4 7; tick 9; read 0 1 1 5 3; leak 1 0 0; leak 1 0 0;"
             + "tick 5; copy 0 0; revert 0 0; knock; drain 3; control 1 2 3 2; tick 9; logout 5");
+        test.checksum(Runs.PAIR + "; write 0 0 0 0 4 7; tick 9; breakSide 0 0; drain 2; write 0 0 2 4 4 9; tick 9; copy 2 0;"
+            + "breakSide 2 1; crash 0; write 0 0 2 5 1 800; tick 9; mend 0 0");
         test.checksum(Runs.BOTH_PORTS + "; control 0 0 0 4; control 1 0 0 5; tick 2; crash 1; unlink 0 1");
         runs.end();
         if (test.wrong != 0) {
