@@ -64,6 +64,8 @@ public final class Blockfabric {
     private static final int BUSY = 3;
     private static final int DENIED = 4;
 
+    private static final int DIGITS_AT_MOST = 10;
+
     private static final int FACTS_OF_SWITCH = 7;
     private static final int FACTS_OF_EXCHANGE = 14;
     private static final int FACTS_OF_SIDE = 3;
@@ -73,8 +75,10 @@ public final class Blockfabric {
     private final Net net;
     private final Store store;
     private final Traffic traffic;
-    /** One builder for all texts, so that the digest can measure them without making any. */
     private final StringBuilder text;
+    private int length;
+    /** The digest asks how long texts are and makes none, since many calls would fill the room with them. */
+    private boolean isMeasuring;
     private int refusals;
 
     public Blockfabric() {
@@ -416,7 +420,8 @@ public final class Blockfabric {
 
     public String names(int node) throws IndexOutOfBoundsException {
         needIndex(node, NODES);
-        return tellNames(node).toString();
+        tellNames(node);
+        return text.toString();
     }
 
     public int at(int node) throws IndexOutOfBoundsException {
@@ -443,22 +448,26 @@ public final class Blockfabric {
 
     public String buffer(int kind, int one, int other) throws IllegalArgumentException {
         needLine(kind, one, other);
-        return tellBuffer(kind, one, other).toString();
+        tellBuffer(kind, one, other);
+        return text.toString();
     }
 
     public String notices(int node) throws IndexOutOfBoundsException {
         needIndex(node, NODES);
-        return tellNotices(node).toString();
+        tellNotices(node);
+        return text.toString();
     }
 
     public String row(int node) throws IndexOutOfBoundsException {
         needIndex(node, NODES);
-        return tellRow(node).toString();
+        tellRow(node);
+        return text.toString();
     }
 
     public String queue(int which) throws IndexOutOfBoundsException {
         needIndex(which, CONTROLLERS);
-        return tellQueue(which).toString();
+        tellQueue(which);
+        return text.toString();
     }
 
     // ---- what is asked of commands
@@ -466,7 +475,8 @@ public final class Blockfabric {
     public String told(int host, int tag) throws IndexOutOfBoundsException {
         needIndex(host, HOSTS);
         needIndex(tag, TAGS);
-        return tellAnswer(host, tag).toString();
+        tellAnswer(host, tag);
+        return text.toString();
     }
 
     public int ofExchange(int number, int what) throws IndexOutOfBoundsException, IllegalArgumentException {
@@ -488,7 +498,7 @@ public final class Blockfabric {
         needIndex(volume, VOLUMES);
         startText();
         for (int block = 0; block < BLOCKS; block++) {
-            addNumber(store.readBlock(volume, block));
+            addMember(store.readBlock(volume, block));
         }
         return text.toString();
     }
@@ -524,7 +534,8 @@ public final class Blockfabric {
 
     public String cache(int which) throws IndexOutOfBoundsException {
         needIndex(which, CONTROLLERS);
-        return tellCache(which).toString();
+        tellCache(which);
+        return text.toString();
     }
 
     public int ofVolume(int volume, int what) throws IndexOutOfBoundsException, IllegalArgumentException {
@@ -595,6 +606,7 @@ public final class Blockfabric {
     }
 
     public long digest() {
+        isMeasuring = true;
         long d = DIGEST_START;
         for (int what = 0; what < FACTS_OF_HOUSE; what++) {
             d = mix(d, house(what));
@@ -611,11 +623,12 @@ public final class Blockfabric {
             d = mixVolume(d, volume);
         }
         for (int which = 0; which < CONTROLLERS; which++) {
-            d = mix(d, tellCache(which).length());
+            d = mix(d, tellCache(which));
         }
         for (int which = 0; which < CONTROLLERS; which++) {
-            d = mix(d, tellQueue(which).length());
+            d = mix(d, tellQueue(which));
         }
+        isMeasuring = false;
         return mix(d, isSound() ? 1 : 0);
     }
 
@@ -642,13 +655,13 @@ public final class Blockfabric {
         for (int node = 0; node < NODES; node++) {
             d = mix(d, at(node));
             d = mix(d, address(node));
-            d = mix(d, tellNames(node).length());
-            d = mix(d, tellRow(node).length());
-            d = mix(d, tellNotices(node).length());
+            d = mix(d, tellNames(node));
+            d = mix(d, tellRow(node));
+            d = mix(d, tellNotices(node));
             d = mix(d, credits(FROM_NODE, node, 0));
             d = mix(d, credits(TO_NODE, node, 0));
-            d = mix(d, tellBuffer(FROM_NODE, node, 0).length());
-            d = mix(d, tellBuffer(TO_NODE, node, 0).length());
+            d = mix(d, tellBuffer(FROM_NODE, node, 0));
+            d = mix(d, tellBuffer(TO_NODE, node, 0));
         }
         return d;
     }
@@ -660,7 +673,7 @@ public final class Blockfabric {
                 if (from != to) {
                     d = mix(d, cost(from, to));
                     d = mix(d, credits(BETWEEN, from, to));
-                    d = mix(d, tellBuffer(BETWEEN, from, to).length());
+                    d = mix(d, tellBuffer(BETWEEN, from, to));
                 }
             }
         }
@@ -674,7 +687,7 @@ public final class Blockfabric {
                 d = mix(d, net.bestPort(host, volume));
             }
             for (int tag = 0; tag < TAGS; tag++) {
-                d = mix(d, tellAnswer(host, tag).length());
+                d = mix(d, tellAnswer(host, tag));
             }
         }
         return d;
@@ -711,97 +724,141 @@ public final class Blockfabric {
         return d;
     }
 
-    // ---- texts
+    // ---- texts: what tells one answers how long it is
 
     private void startText() {
         text.setLength(0);
+        length = 0;
     }
 
-    private void addNumber(int number) {
-        addBlank(text);
-        text.append(number);
-    }
-
-    private static void addBlank(StringBuilder text) {
-        if (text.length() > 0) {
-            text.append(' ');
+    private void addWord(String word) {
+        length += word.length();
+        if (!isMeasuring) {
+            text.append(word);
         }
     }
 
-    private StringBuilder tellNames(int node) {
+    private void addSign(char sign) {
+        length++;
+        if (!isMeasuring) {
+            text.append(sign);
+        }
+    }
+
+    private void addNumber(int number) {
+        length += lengthOf(number);
+        if (!isMeasuring) {
+            text.append(number);
+        }
+    }
+
+    private static int lengthOf(int number) {
+        int count = number < 0 ? 2 : 1;
+        int rest = number / 10;
+        for (int i = 0; i < DIGITS_AT_MOST && rest != 0; i++) {
+            rest /= 10;
+            count++;
+        }
+        return count;
+    }
+
+    private void addBlank() {
+        if (length > 0) {
+            addSign(' ');
+        }
+    }
+
+    private void addMember(int number) {
+        addBlank();
+        addNumber(number);
+    }
+
+    private int tellNames(int node) {
         startText();
         int seen = net.sightOf(node);
         for (int other = 0; other < NODES; other++) {
             if (has(seen, other)) {
-                addNumber(net.addressOf(other));
+                addMember(net.addressOf(other));
             }
         }
-        return text;
+        return length;
     }
 
-    private StringBuilder tellBuffer(int kind, int one, int other) {
+    private int tellBuffer(int kind, int one, int other) {
         startText();
         Line line = net.lineOf(kind, one, other);
         if (line != null) {
-            Frame.tellAll(line.frames, text);
+            addFrames(line.frames);
         }
-        return text;
+        return length;
     }
 
-    private StringBuilder tellRow(int node) {
+    private int tellRow(int node) {
         startText();
-        Frame.tellAll(net.nodes[node].waiting, text);
-        return text;
+        addFrames(net.nodes[node].waiting);
+        return length;
     }
 
-    private StringBuilder tellNotices(int node) {
+    private void addFrames(ArrayList<Frame> frames) {
+        for (int i = 0; i < frames.size(); i++) {
+            Frame frame = frames.get(i);
+            addMember(frame.exchange.number);
+            addSign(frame.course == FORTH ? '>' : '<');
+            addNumber(frame.number);
+            if (frame.isAck) {
+                addSign('!');
+            }
+        }
+    }
+
+    private int tellNotices(int node) {
         startText();
         ArrayList<Integer> notices = net.nodes[node].notices;
         for (int i = 0; i < notices.size(); i++) {
-            addNumber(notices.get(i));
+            addMember(notices.get(i));
         }
-        return text;
+        return length;
     }
 
-    private StringBuilder tellQueue(int which) {
+    private int tellQueue(int which) {
         startText();
         ArrayList<Exchange> queued = store.controllers[which].queued;
         for (int i = 0; i < queued.size(); i++) {
-            addNumber(queued.get(i).number);
+            addMember(queued.get(i).number);
         }
-        return text;
+        return length;
     }
 
-    private StringBuilder tellCache(int which) {
+    private int tellCache(int which) {
         startText();
         Controller of = store.controllers[which];
         for (int i = 0; i < of.cached; i++) {
-            addNumber(of.keys[i] / BLOCKS);
-            text.append('.').append(of.keys[i] % BLOCKS);
-            text.append('=').append(of.values[i]);
+            addMember(of.keys[i] / BLOCKS);
+            addSign('.');
+            addNumber(of.keys[i] % BLOCKS);
+            addSign('=');
+            addNumber(of.values[i]);
         }
-        return text;
+        return length;
     }
 
-    private StringBuilder tellAnswer(int host, int tag) {
+    private int tellAnswer(int host, int tag) {
         startText();
         Exchange last = traffic.lastOf(host, tag);
-        if (last == null) {
-            return text.append("none");
-        }
-        if (last.state == OPEN) {
-            return text.append("open");
-        }
-        if (last.state == LOST) {
-            return text.append("lost");
-        }
-        text.append(nameOfStatus(last.status));
-        if (last.kind == READ && last.status == GOOD) {
+        addWord(last == null ? "none" : nameOfAnswer(last));
+        if (last != null && last.state == DONE && last.kind == READ && last.status == GOOD) {
             for (int i = 0; i < last.many; i++) {
-                addNumber(last.got[i]);
+                addMember(last.got[i]);
             }
         }
-        return text;
+        return length;
+    }
+
+    private static String nameOfAnswer(Exchange exchange) {
+        if (exchange.state == OPEN) {
+            return "open";
+        }
+        return exchange.state == LOST ? "lost" : nameOfStatus(exchange.status);
     }
 
     private static String nameOfStatus(int status) {
@@ -948,19 +1005,6 @@ public final class Blockfabric {
                 }
             }
             return before - frames.size();
-        }
-
-        static void tellAll(ArrayList<Frame> frames, StringBuilder text) {
-            for (int i = 0; i < frames.size(); i++) {
-                Frame frame = frames.get(i);
-                addBlank(text);
-                text.append(frame.exchange.number);
-                text.append(frame.course == FORTH ? '>' : '<');
-                text.append(frame.number);
-                if (frame.isAck) {
-                    text.append('!');
-                }
-            }
         }
     }
 
