@@ -5,7 +5,7 @@ import java.util.Set;
 /**
  * Runs of calls, each on a new object. A row is one call or several with ";" between, each with the answer that is due
  * behind "=", or without one. Behind each run a second object gets the same calls but for those that must change
- * nothing: what throws and what only asks is left out, and what is refused is a knock. Its digest must be the same.
+ * nothing: what throws and what only asks is left out, and what is refused is a knock. It must tell just the same.
  */
 final class Runs {
     /** Hosts 0 and 1 at the switch 0, ports 4 and 5 at the switch 1, a link between, all in one zone and logged in. */
@@ -23,30 +23,42 @@ final class Runs {
     private int wrong;
 
     Runs run(String title, String... rows) {
-        Calls calls = new Calls(Blockfabric.class);
-        Calls quiet = new Calls(Blockfabric.class);
-        for (String row : rows) {
-            for (String part : row.split(";")) {
-                int sign = part.indexOf('=');
-                String call = (sign < 0 ? part : part.substring(0, sign)).trim();
-                String got = calls.answer(call);
-                if (sign >= 0) {
-                    compare(title, call, got, part.substring(sign + 1).trim());
-                }
-                repeat(quiet, call, got);
+        Calls object = new Calls(Blockfabric.class);
+        List<String> called = new ArrayList<>();
+        List<String> changing = new ArrayList<>();
+        for (String part : calls(String.join(";", rows))) {
+            int sign = part.indexOf('=');
+            String call = (sign < 0 ? part : part.substring(0, sign)).trim();
+            String got = object.answer(call);
+            if (sign >= 0) {
+                compare(title, call, got, part.substring(sign + 1).trim());
             }
+            called.add(call);
+            addIfChanging(changing, call, got);
         }
-        compare(title, "isSound", calls.answer("isSound"), "true");
-        compare(title, "digest without what changes nothing", quiet.answer("digest"), calls.answer("digest"));
+        compare(title, "isSound", object.answer("isSound"), "true");
+        if (!called.equals(changing)) {
+            alike(title + ": without what must change nothing", Everything.of(called), Everything.of(changing));
+        }
         return this;
     }
 
-    private static void repeat(Calls quiet, String call, String got) {
+    private static void addIfChanging(List<String> changing, String call, String got) {
         if (got.equals(REFUSED)) {
-            quiet.answer("knock");
+            changing.add("knock");
         } else if (!got.endsWith("Exception") && !QUESTIONS.contains(call.split(" ")[0])) {
-            quiet.answer(call);
+            changing.add(call);
         }
+    }
+
+    static List<String> calls(String row) {
+        List<String> calls = new ArrayList<>();
+        for (String call : row.split(";")) {
+            if (!call.isBlank()) {
+                calls.add(call.trim());
+            }
+        }
+        return calls;
     }
 
     /** A run of the same call with several arguments, all with one answer, behind a beginning. */
@@ -59,11 +71,49 @@ final class Runs {
         return run(title, rows.toArray(new String[0]));
     }
 
-    private void compare(String title, String call, String got, String want) {
-        if (!got.equals(want)) {
-            wrong++;
-            System.out.println(title + ": " + call + " answered " + got + ", due is " + want);
+    /** What the last one of these calls answers. */
+    void answers(String title, List<String> calls, String due) {
+        String last = calls.get(calls.size() - 1);
+        compare(title, last, lastAnswer(calls), due);
+    }
+
+    void isLet(String title, List<String> calls, boolean isDone) {
+        String got = lastAnswer(calls);
+        if (got.endsWith("Exception") || got.endsWith("Error") || isDone && got.equals(REFUSED)) {
+            wrong(title + ": " + calls.get(calls.size() - 1) + " is let, but answered " + got);
         }
+    }
+
+    private static String lastAnswer(List<String> calls) {
+        Calls object = new Calls(Blockfabric.class);
+        String got = "";
+        for (String call : calls) {
+            got = object.answer(call);
+        }
+        return got;
+    }
+
+    void alike(String title, List<String> got, List<String> due) {
+        for (int i = 0; i < got.size() && i < due.size(); i++) {
+            if (!got.get(i).equals(due.get(i))) {
+                wrong(title + ": told is " + got.get(i) + ", due is " + due.get(i));
+                return;
+            }
+        }
+        if (got.size() != due.size()) {
+            wrong(title + ": so many things are told: " + got.size() + ", due are " + due.size());
+        }
+    }
+
+    private void compare(String title, String call, String got, String due) {
+        if (!got.equals(due)) {
+            wrong(title + ": " + call + " answered " + got + ", due is " + due);
+        }
+    }
+
+    void wrong(String text) {
+        wrong++;
+        System.out.println(text);
     }
 
     void end() {
