@@ -100,33 +100,33 @@ public final class CommandsTest {
     }
 
     private static void attentions(Runs runs) {
-        runs.run("a reset: nobody holds it, and all other hosts have attention, which the next command of each takes",
+        runs.run("promise 13: a reset: nobody holds it, and all other hosts have attention, which the next command of each takes",
             HOUSE, "control 1 0 0 2 = 1; tick 3; ofVolume 0 0 = 1; control 0 0 0 5 = 2; tick 3; told 0 0 = good; ofVolume 0 0 = -1",
             "ofVolume 0 1 = 14; ofVolume 1 1 = 0; read 1 0 0 0 4 = 3; tick 3; told 1 0 = check; ofExchange 3 10 = 1",
             "ofVolume 0 1 = 12; read 1 0 0 0 1 = 4; tick 4; told 1 0 = good 0; control 2 0 0 5 = 5; tick 3; told 2 0 = check",
             "ofVolume 0 1 = 8; control 2 0 0 5 = 6; tick 3; ofVolume 0 1 = 11; control 3 0 0 2 = 7; tick 3; told 3 0 = check",
             "ofVolume 0 0 = -1; control 0 0 1 4 = 8; tick 3; told 0 0 = good; ofVolume 0 1 = 3");
-        runs.run("attention goes ahead of a conflict",
+        runs.run("promise 13: attention goes ahead of a conflict",
             HOUSE, "copy 0 0; revert 0 0 = 0; ofVolume 0 1 = 15; control 1 0 0 2 = 1; tick 3; told 1 0 = check; control 1 0 0 2 = 2",
             "tick 3; told 1 0 = good; write 2 0 0 0 1 5 = 3; tick 4; told 2 0 = check; write 2 0 0 0 1 5 = 4; tick 4",
             "told 2 0 = conflict; value 0 0 = 0; ofVolume 0 1 = 9");
     }
 
     private static void reservations(Runs runs) {
-        runs.run("a volume that is reserved: writes, reserves and flushes of others conflict, all else goes",
+        runs.run("promise 13: a volume that is reserved: writes, reserves and flushes of others conflict, all else goes",
             HOUSE, "control 0 0 0 2 = 1; write 0 1 0 0 1 7 = 2; tick 9; told 0 1 = good; write 1 0 0 0 1 5 = 3; control 1 1 0 2 = 4",
             "control 1 2 0 6 = 5; read 1 3 0 0 1 = 6; tick 12; told 1 0 = conflict; told 1 1 = conflict; told 1 2 = conflict",
             "told 1 3 = good 7; value 0 0 = 7; ofVolume 0 0 = 0; cache 0 = 0.0=7; control 1 0 0 3 = 7; control 1 1 0 4 = 8; tick 4",
             "told 1 0 = good; told 1 1 = good; ofVolume 0 0 = 0; control 0 0 0 2 = 9; write 1 0 1 0 1 5 = 10; tick 4",
             "told 0 0 = good; told 1 0 = good; control 0 0 0 6 = 11; tick 3; told 0 0 = good; onSide 0 0 0 = 7",
             "control 0 0 0 3 = 12; tick 3; ofVolume 0 0 = -1; control 1 0 0 2 = 13; tick 3; ofVolume 0 0 = 1");
-        runs.run("a reset of another host takes the reservation",
+        runs.run("promise 13: a reset of another host takes the reservation",
             HOUSE, "control 0 0 3 2 = 1; tick 3; ofVolume 3 0 = 0; control 2 0 3 5 = 2; tick 3; told 2 0 = good; ofVolume 3 0 = -1",
             "ofVolume 3 1 = 11; control 2 0 3 2 = 3; tick 3; ofVolume 3 0 = 2");
     }
 
     private static void flushes(Runs runs) {
-        runs.run("a flush stores the blocks of one volume and takes them out of both caches",
+        runs.run("promise 13: a flush stores the blocks of one volume and takes them out of both caches",
             HOUSE, "write 0 0 0 3 1 5 = 1; tick 4; write 0 0 1 0 2 8 = 2; tick 5; write 0 0 0 1 1 6 = 3; tick 4",
             "cache 0 = 0.3=5 1.0=8 1.1=9 0.1=6; cache 1 = 0.3=5 1.0=8 1.1=9 0.1=6; ofVolume 0 3 = 2; control 1 0 0 6 = 4",
             "tick 3; told 1 0 = good; cache 0 = 1.0=8 1.1=9; cache 1 = 1.0=8 1.1=9; onSide 0 0 3 = 5; onSide 0 1 1 = 6",

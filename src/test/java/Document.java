@@ -20,7 +20,14 @@ final class Document {
     private final Map<String, StringBuilder> texts = new LinkedHashMap<>();
     private final Map<String, BitSet> quoted = new LinkedHashMap<>();
 
+    private final boolean isThere = Files.exists(PLACE);
+
+    /** Where the document is not at its place, all words are taken as they are. */
     Document() {
+        if (!isThere) {
+            System.out.println(PLACE + " is not there: titles are not compared with it");
+            return;
+        }
         try {
             read(Files.readAllLines(PLACE));
         } catch (IOException e) {
@@ -45,14 +52,22 @@ final class Document {
         return text.replace("`", "").trim();
     }
 
-    /** Answers whether the words stand in the part, in this sequence where " .. " leaves some out. */
-    boolean quote(String part, String words) {
+    boolean isThere() {
+        return isThere;
+    }
+
+    /**
+     * Answers whether the words stand in the part, in this sequence where " .. " leaves some out. "promise 22 by section 2"
+     * is a sentence of the section by which that promise is kept.
+     */
+    boolean quote(String name, String words) {
+        String part = name.substring(name.indexOf("section ") < 0 ? 0 : name.indexOf("section "));
         StringBuilder text = texts.getOrDefault(part, new StringBuilder());
         int from = 0;
         for (String piece : words.split(" \\.\\. ")) {
             int place = text.indexOf(piece, from);
             if (place < 0) {
-                return false;
+                return !isThere;
             }
             from = place + piece.length();
             quoted.computeIfAbsent(part, key -> new BitSet()).set(place, from);

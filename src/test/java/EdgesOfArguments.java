@@ -7,12 +7,8 @@ import java.util.List;
  * behind them.
  */
 final class EdgesOfArguments {
-    /** Much of what an object can keep: frames in rows and buffers, leaks, marks, copies, caches, one that was lost. */
-    private static final String MUCH = "link 0 1 2; link 1 2 3; link 2 3 1; attach 0 0; attach 1 0; attach 2 2; attach 4 1;"
-        + "attach 5 1; attach 6 2; zone 0 0 true; zone 0 1 true; zone 0 2 true; zone 0 4 true; zone 0 5 true; zone 0 6 true;"
-        + "login 0; login 1; login 2; login 4; login 5; login 6; manner 1 true true; deny 2 3 true; write 1 0 0 0 4 7; tick 12;"
-        + "copy 0 0; write 0 0 0 2 2 50; tick 9; drain 3; breakSide 1 0; control 0 0 2 2; tick 9; write 0 1 1 4 4 998;"
-        + "read 1 2 1 0 4; abort 1 2; read 1 1 3 0 2; control 2 3 2 5; tick 2; copy 3 1; leak 2 0 1; leak 0 0 0; knock";
+    /** So that a change of anything would show. */
+    private static final String MUCH = Runs.RICH;
     private static final String MESH =
         "link 0 1 1; link 0 2 1; link 0 3 1; link 1 2 1; link 1 3 1; link 2 3 1;";
     private static final String PLACED = "attach 0 0; attach 1 0; attach 2 0; attach 3 0; attach 4 0; attach 5 0; attach 6 0;"
@@ -77,7 +73,7 @@ final class EdgesOfArguments {
         {"45", "row 0..7I", "1", ""},
         {"46", "queue 0..1I", "1", ""},
         {"47", "told 0..3I 0..3I", "1 1", ""},
-        {"48", "ofExchange 1..7I 0..13A", "1 1", MUCH},
+        {"48", "ofExchange 1..6I 0..13A", "1 1", MUCH},
         {"49", "value 0..3I 0..7I", "1 1", ""},
         {"50", "values 0..3I", "1", ""},
         {"51", "onSide 0..3I 0..1I 0..7I", "1 1 1", ""},
@@ -192,7 +188,7 @@ final class EdgesOfArguments {
             "fall 0", "fall 1", "fall 2", "fall 3");
         sentences.thrown("promise 5", "Throws IllegalStateException if it is UP", Sentences.STATE, MUCH,
             "rise 0", "rise 1", "rise 2", "rise 3");
-        sentences.thrown("promise 23", "Throws IllegalStateException if it is DOWN", Sentences.STATE, MUCH + "; crash 0; crash 1",
+        sentences.thrown("promise 23", "Throws IllegalStateException if it is DOWN", Sentences.STATE, MUCH + "crash 0; crash 1",
             "crash 0", "crash 1");
         sentences.thrown("promise 24", "Throws IllegalStateException if it is UP", Sentences.STATE, MUCH, "restart 0", "restart 1");
         sentences.thrown("promise 4", "Throws IndexOutOfBoundsException if there is no such SWITCH", Sentences.INDEX, DOWN,

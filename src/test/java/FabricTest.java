@@ -75,21 +75,21 @@ public final class FabricTest {
     }
 
     private static void domains(Runs runs) {
-        runs.run("the principal is looked at first, then the others; a taken domain gives way to the smallest free one",
+        runs.run("promise 2: the principal is looked at first, then the others; a taken domain gives way to the smallest free one",
             "priority 1 1 = 1; link 0 1 1; ofSwitch 0 2 = 2; ofSwitch 1 2 = 1; link 2 3 1; ofSwitch 2 2 = 1",
             "ofSwitch 3 2 = 2; link 1 2 1; ofSwitch 0 2 = 2; ofSwitch 1 2 = 1; ofSwitch 2 2 = 3; ofSwitch 3 2 = 4");
-        runs.run("a domain is free if none of the fabric has it, looked at or not",
+        runs.run("promise 2: a domain is free if none of the fabric has it, looked at or not",
             "link 0 2 1; ofSwitch 2 2 = 2; link 0 1 1; ofSwitch 1 2 = 3; ofSwitch 2 2 = 2; ofSwitch 0 2 = 1");
-        runs.run("the smallest free domain may be 1",
+        runs.run("promise 2: the smallest free domain may be 1",
             "link 0 1 1; link 2 3 1; unlink 0 1; unlink 2 3; link 1 3 1; ofSwitch 1 2 = 2; ofSwitch 3 2 = 1; ofSwitch 1 3 = 1");
-        runs.run("a node of a switch that gets another domain is logged out, one of another switch is not",
+        runs.run("promise 2: a node of a switch that gets another domain is logged out, one of another switch is not",
             "attach 0 0; attach 1 1; zone 0 0 true; zone 0 1 true; login 0 = 100; login 1 = 101; link 0 1 1 = -1",
             "address 0 = 100; address 1 = -1; house 3 = 1; names 0 =; login 1 = 201; names 0 = 201; names 1 = 100",
             "unlink 0 1 = 1; address 1 = 201; ofSwitch 1 2 = 2; names 1 =; link 0 1 5; address 1 = 201; names 1 = 100");
-        runs.run("fabrics have domains for themselves",
+        runs.run("promise 2: fabrics have domains for themselves",
             "link 0 1 1; link 2 3 1; ofSwitch 0 2 = 1; ofSwitch 1 2 = 2; ofSwitch 2 2 = 1; ofSwitch 3 2 = 2; house 1 = 2",
             "ofSwitch 3 3 = 2; ofSwitch 1 3 = 0; ofSwitch 0 4 = 3; ofSwitch 3 4 = 12");
-        runs.run("a new principal alone gives nobody another domain",
+        runs.run("promise 6: a new principal alone gives nobody another domain",
             "link 0 1 1; priority 1 1 = 1; ofSwitch 0 2 = 1; ofSwitch 1 2 = 2; ofSwitch 0 3 = 1");
     }
 
@@ -175,7 +175,7 @@ public final class FabricTest {
         runs.run("promise 10: nodes come into zones and go out",
             "zone 3 7 true = 1; zone 3 0 true = 2; zone 3 0 true = 2; ofZone 3 = 129; ofZone 2 = 0; zone 3 7 false = 1",
             "zone 3 7 false = 1; zone 3 0 false = 0; ofZone 3 = 0; zone 0 1 false = 0; zone 1 5 true = 1; ofZone 1 = 32");
-        runs.run("two nodes see each other by any one zone, and what is not seen any more is lost",
+        runs.run("promise 10: two nodes see each other by any one zone, and what is not seen any more is lost",
             Runs.PAIR, "zone 1 0 true; zone 1 4 true; control 0 0 0 4 = 1; control 1 0 0 4 = 2; zone 0 4 false = 3",
             "told 0 0 = open; told 1 0 = lost; names 4 = 100; names 0 = 101 204 205; names 1 = 100 205; zone 1 0 false",
             "told 0 0 = lost; names 0 = 101 205; names 4 =");
