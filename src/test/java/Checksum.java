@@ -49,7 +49,8 @@ final class Checksum {
         for (int from = 0; from < 4; from++) {
             for (int to = 0; to < 4; to++) {
                 if (from != to) {
-                    asked.addAll(List.of("cost " + from + " " + to, "credits 2 " + from + " " + to, "buffer 2 " + from + " " + to));
+                    String ends = from + " " + to;
+                    asked.addAll(List.of("cost " + ends, "credits 2 " + ends, "buffer 2 " + ends));
                 }
             }
         }

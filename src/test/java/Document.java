@@ -57,8 +57,8 @@ final class Document {
     }
 
     /**
-     * Answers whether the words stand in the part, in this sequence where " .. " leaves some out. "promise 22 by section 2"
-     * is a sentence of the section by which that promise is kept.
+     * Answers whether the words stand in the part, in this sequence where " .. " leaves some out. The name
+     * "promise 22 by section 2" is of a part, too: of the section by which that promise is kept.
      */
     boolean quote(String name, String words) {
         String part = name.substring(name.indexOf("section ") < 0 ? 0 : name.indexOf("section "));
@@ -115,7 +115,7 @@ final class Document {
         }
     }
 
-    /** Of the face, without the names of the arguments: "int link(int, int, int) throws .."; the constructor as it stands. */
+    /** Of the face, without the names of the arguments, as in "int link(int, int, int) throws ..". */
     Set<String> signatures() {
         Set<String> signatures = new TreeSet<>();
         for (String line : texts.getOrDefault("the public face", new StringBuilder()).toString().split("\n")) {

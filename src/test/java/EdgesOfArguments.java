@@ -11,10 +11,11 @@ final class EdgesOfArguments {
     private static final String MUCH = Runs.RICH;
     private static final String MESH =
         "link 0 1 1; link 0 2 1; link 0 3 1; link 1 2 1; link 1 3 1; link 2 3 1;";
-    private static final String PLACED = "attach 0 0; attach 1 0; attach 2 0; attach 3 0; attach 4 0; attach 5 0; attach 6 0;"
-        + "attach 7 0;";
-    private static final String IN = PLACED + "zone 0 0 true; zone 0 1 true; zone 0 2 true; zone 0 3 true; zone 0 4 true;"
-        + "login 0; login 1; login 2; login 3; login 4; login 5; login 6; login 7;";
+    private static final String PLACED =
+        "attach 0 0; attach 1 0; attach 2 0; attach 3 0; attach 4 0; attach 5 0; attach 6 0;" + "attach 7 0;";
+    private static final String IN = PLACED
+            + "zone 0 0 true; zone 0 1 true; zone 0 2 true; zone 0 3 true; zone 0 4 true;"
+            + "login 0; login 1; login 2; login 3; login 4; login 5; login 6; login 7;";
     private static final String OPEN = IN + "control 0 1 0 4; control 3 1 0 4; control 1 0 0 4; control 1 3 0 4;";
     private static final String DOWN = "fall 0; fall 1; fall 2; fall 3;";
     private static final String COPIED = "copy 0 1; copy 3 1; copy 1 0; copy 1 1;";
@@ -153,7 +154,8 @@ final class EdgesOfArguments {
     }
 
     private void same() {
-        for (String[] call : new String[][] {{"promise 2", "link", " 5"}, {"promise 3", "unlink", ""}, {"promise 34", "cost", ""}}) {
+        String[][] names = {{"promise 2", "link", " 5"}, {"promise 3", "unlink", ""}, {"promise 34", "cost", ""}};
+        for (String[] call : names) {
             List<String> calls = new ArrayList<>();
             for (int which = 0; which < 4; which++) {
                 calls.add(call[1] + " " + which + " " + which + call[2]);
@@ -168,18 +170,22 @@ final class EdgesOfArguments {
     private void blocks() {
         String read = "there are not so many BLOCKS from there on";
         sentences.done("promise 11", read, IN, "read 0 0 0 4 4", "read 0 0 0 5 3", "read 0 0 0 6 2", "read 0 0 0 7 1");
-        sentences.thrown("promise 11", read, Sentences.ARGUMENT, MUCH, "read 0 0 0 5 4", "read 0 0 0 6 3", "read 0 0 0 7 2",
-            "read 0 0 0 6 4", "read 0 0 0 7 4", "read 0 0 0 8 1");
-        sentences.done("promise 12", read, IN, "write 0 0 0 4 4 0", "write 0 0 0 5 3 0", "write 0 0 0 6 2 0", "write 0 0 0 7 1 0");
+        sentences.thrown("promise 11", read, Sentences.ARGUMENT, MUCH, "read 0 0 0 5 4", "read 0 0 0 6 3",
+            "read 0 0 0 7 2", "read 0 0 0 6 4", "read 0 0 0 7 4", "read 0 0 0 8 1");
+        sentences.done("promise 12", read, IN, "write 0 0 0 4 4 0", "write 0 0 0 5 3 0", "write 0 0 0 6 2 0",
+            "write 0 0 0 7 1 0");
         sentences.thrown("promise 12", read, Sentences.ARGUMENT, MUCH, "write 0 0 0 5 4 0", "write 0 0 0 6 3 0",
             "write 0 0 0 7 2 0", "write 0 0 0 6 4 0", "write 0 0 0 7 4 0", "write 0 0 0 8 1 0");
-        sentences.thrown("promise 11", read, Sentences.ARGUMENT, MUCH, "read 0 0 0 -1 1", "read 0 0 0 -1 4", "read 0 0 0 -4 4");
+        sentences.thrown("promise 11", read, Sentences.ARGUMENT, MUCH, "read 0 0 0 -1 1", "read 0 0 0 -1 4",
+            "read 0 0 0 -4 4");
     }
 
     private void numbersOfExchanges() {
         String words = "Throws IndexOutOfBoundsException if there is no such EXCHANGE";
-        sentences.thrown("promise 48", words, Sentences.INDEX, IN, "ofExchange 0 0", "ofExchange 1 0", "ofExchange 1 14");
-        sentences.thrown("promise 48", words, Sentences.INDEX, IN + "control 0 0 0 4", "ofExchange 0 0", "ofExchange 2 0");
+        sentences.thrown("promise 48", words, Sentences.INDEX, IN, "ofExchange 0 0", "ofExchange 1 0",
+            "ofExchange 1 14");
+        sentences.thrown("promise 48", words, Sentences.INDEX, IN + "control 0 0 0 4", "ofExchange 0 0",
+            "ofExchange 2 0");
         sentences.done("promise 48", words, IN + "control 0 0 0 4", "ofExchange 1 0");
     }
 
@@ -188,13 +194,14 @@ final class EdgesOfArguments {
             "fall 0", "fall 1", "fall 2", "fall 3");
         sentences.thrown("promise 5", "Throws IllegalStateException if it is UP", Sentences.STATE, MUCH,
             "rise 0", "rise 1", "rise 2", "rise 3");
-        sentences.thrown("promise 23", "Throws IllegalStateException if it is DOWN", Sentences.STATE, MUCH + "crash 0; crash 1",
-            "crash 0", "crash 1");
-        sentences.thrown("promise 24", "Throws IllegalStateException if it is UP", Sentences.STATE, MUCH, "restart 0", "restart 1");
-        sentences.thrown("promise 4", "Throws IndexOutOfBoundsException if there is no such SWITCH", Sentences.INDEX, DOWN,
-            "fall 4", "fall -1", "rise 4", "rise -1");
-        sentences.thrown("promise 23", "Throws IndexOutOfBoundsException if there is no such CONTROLLER", Sentences.INDEX,
-            "crash 0; crash 1", "crash 2", "crash -1", "restart 2", "restart -1");
+        sentences.thrown("promise 23", "Throws IllegalStateException if it is DOWN", Sentences.STATE, MUCH
+                + "crash 0; crash 1", "crash 0", "crash 1");
+        sentences.thrown("promise 24", "Throws IllegalStateException if it is UP", Sentences.STATE, MUCH, "restart 0",
+            "restart 1");
+        sentences.thrown("promise 4", "Throws IndexOutOfBoundsException if there is no such SWITCH", Sentences.INDEX,
+            DOWN, "fall 4", "fall -1", "rise 4", "rise -1");
+        sentences.thrown("promise 23", "Throws IndexOutOfBoundsException if there is no such CONTROLLER",
+            Sentences.INDEX, "crash 0; crash 1", "crash 2", "crash -1", "restart 2", "restart -1");
     }
 
     private static String with(String name, String[] base, int place, String number) {

@@ -44,7 +44,8 @@ final class EdgesOfSoundness {
         broken(clause, "a leak that no credit went for", x, "net.lines.20.leaked", 1);
         broken(clause, "a leak too few", x, "net.lines.5.leaked", 0);
         broken(clause, "a credit below 0", x, "net.lines.17.credits", -1);
-        broken(clause, "a credit below 0, though they are two together", x, "net.lines.17.credits", -1, "net.lines.17.leaked", 3);
+        broken(clause, "a credit below 0, though they are two together", x, "net.lines.17.credits", -1,
+            "net.lines.17.leaked", 3);
         broken(clause, "the last line", x, "net.lines.30.credits", 1);
         Blockfabric full = made(Runs.PAIR + "; leak 1 4 0; leak 1 4 0; write 0 0 0 0 4 7; tick 5");
         broken(clause, "a credit for a frame's place", full, "net.lines.17.credits", 1);
@@ -62,7 +63,8 @@ final class EdgesOfSoundness {
         broken(clause, "three of the second sequence", back, "traffic.exchanges.0.left.1", 3);
         Blockfabric free = made(ONE + "leak 1 4 0; leak 1 4 0; leak 0 0 0; write 0 0 0 0 4 7; recover; tick 6");
         sound(clause, "five of one that is not acked", free);
-        Blockfabric second = made(Runs.PAIR + "; leak 1 0 0; leak 1 0 0; control 0 0 0 4; manner 1 true false; write 1 0 0 0 4 7; tick 5");
+        Blockfabric second = made(Runs.PAIR
+                + "; leak 1 0 0; leak 1 0 0; control 0 0 0 4; manner 1 true false; write 1 0 0 0 4 7; tick 5");
         broken(clause, "three of the second exchange", second, "traffic.exchanges.1.left.0", 5);
     }
 
@@ -77,9 +79,11 @@ final class EdgesOfSoundness {
 
     private void queues() {
         String clause = "QUEUES have COMMANDS of OPEN EXCHANGES alone, at most three, URGENT ones ahead";
-        Blockfabric x = made(Runs.BOTH_PORTS + "; manner 1 false true; control 0 0 0 4; control 0 1 0 4; control 0 2 0 4;"
-            + "control 1 0 0 4; control 1 1 0 4; tick 3");
-        broken(clause, "a command of one that is done", x, "traffic.exchanges.0.state", 0, "store.controllers.0.queued.0.state", 1);
+        Blockfabric x = made(Runs.BOTH_PORTS
+                + "; manner 1 false true; control 0 0 0 4; control 0 1 0 4; control 0 2 0 4;"
+                + "control 1 0 0 4; control 1 1 0 4; tick 3");
+        broken(clause, "a command of one that is done", x, "traffic.exchanges.0.state", 0,
+            "store.controllers.0.queued.0.state", 1);
         broken(clause, "a command of one that is lost", x, "store.controllers.0.queued.1.state", 2);
         List<Object> queue = Inside.list(x, "store.controllers.0.queued");
         Object plain = queue.get(0);
@@ -113,12 +117,13 @@ final class EdgesOfSoundness {
         broken(open, "in a row alone", row, "traffic.exchanges.0.state", 2);
         Blockfabric line = made(Runs.PAIR + "; leak 2 0 1; leak 2 0 1; control 0 0 0 4; tick 1");
         broken(open, "in the first line alone", line, "traffic.exchanges.0.state", 2);
-        Blockfabric last = made("link 3 2 1; attach 0 3; attach 4 2; zone 0 0 true; zone 0 4 true; login 0; login 4; leak 1 4 0; leak 1 4 0;"
-            + "control 0 0 0 4; tick 1");
+        Blockfabric last = made(
+            "link 3 2 1; attach 0 3; attach 4 2; zone 0 0 true; zone 0 4 true; login 0; login 4; leak 1 4 0;"
+                + " leak 1 4 0;" + "control 0 0 0 4; tick 1");
         broken(open, "between switches", last, "traffic.exchanges.0.state", 2);
         String see = "of NODES that SEE each other";
-        broken(see, "no zone has both", x, "net.zones.0", 0, "net.nodes.0.seen", 0, "net.nodes.1.seen", 0, "net.nodes.4.seen", 0,
-            "net.nodes.5.seen", 0);
+        broken(see, "no zone has both", x, "net.zones.0", 0, "net.nodes.0.seen", 0, "net.nodes.1.seen", 0,
+            "net.nodes.4.seen", 0, "net.nodes.5.seen", 0);
     }
 
     private void framesTwice() {
@@ -136,14 +141,16 @@ final class EdgesOfSoundness {
         other.clear();
         sound(clause, "in a row and in a buffer", inBuffer);
         String acked = ONE + "manner 0 true false; leak 0 4 0; leak 0 4 0; ";
-        sound(clause, "an ack of the first frame, and the first frame of the second sequence", made(acked + "control 0 0 0 4; tick 2"));
+        sound(clause, "an ack of the first frame, and the first frame of the second sequence",
+            made(acked + "control 0 0 0 4; tick 2"));
         Blockfabric acks = made(acked + "write 0 0 0 0 1 7; tick 3");
         List<Object> ofPort = Inside.list(acks, "net.nodes.4.waiting");
         sound(clause, "two acks and a frame", acks);
         ofPort.add(ofPort.get(1));
         unsound(clause, "an ack", acks);
-        sound(clause, "all frames that an exchange can have", made(acked + "manner 0 false false; leak 1 4 0; leak 1 4 0; read 0 0 0 0 4;"
-            + "write 0 1 0 0 4 7; recover; leak 0 4 0; leak 0 4 0; tick 3"));
+        sound(clause, "all frames that an exchange can have",
+            made(acked + "manner 0 false false; leak 1 4 0; leak 1 4 0; read 0 0 0 0 4; write 0 1 0 0 4 7; recover;"
+                + "leak 0 4 0; leak 0 4 0; tick 3"));
     }
 
     private void domains() {
@@ -198,9 +205,11 @@ final class EdgesOfSoundness {
     }
 
     private void values() {
-        String clause = "VALUES are what the COMMANDS that were DONE by the array and REVERTING, one behind the other, wrote";
+        String clause = "VALUES are what the COMMANDS that were DONE by the array and REVERTING, one behind the other, "
+                + "wrote";
         Blockfabric x = made(Runs.PAIR + ";" + CACHED + "; revert 0 0; drain 1");
-        broken(clause, "another one in both caches", x, "store.controllers.0.values.1", 9, "store.controllers.1.values.1", 9);
+        broken(clause, "another one in both caches", x, "store.controllers.0.values.1", 9,
+            "store.controllers.1.values.1", 9);
         broken(clause, "another one was written last", x, "store.volumes.3.written.7", 9);
         broken(clause, "at the first block", x, "store.volumes.0.written.0", 9);
     }
@@ -210,7 +219,8 @@ final class EdgesOfSoundness {
         String same = "SIDES that are FIT and IN STEP are the same, and without what is in the CACHES what was STORED";
         broken(same, "the second one is unlike", x, "store.volumes.0.sides.1.values.0", 9);
         broken(same, "the first one is unlike", x, "store.volumes.0.sides.0.values.1", 9);
-        broken(same, "both have what was not stored", x, "store.volumes.0.sides.0.values.1", 9, "store.volumes.0.sides.1.values.1", 9);
+        broken(same, "both have what was not stored", x, "store.volumes.0.sides.0.values.1", 9,
+            "store.volumes.0.sides.1.values.1", 9);
         broken(same, "the last block of the last volume", x, "store.volumes.3.sides.1.values.7", 9);
         String behind = "a SIDE that is not IN STEP has what the other one has, but for its MARKS";
         broken(behind, "a block without a mark", x, "store.volumes.1.sides.1.values.3", 9);
@@ -220,7 +230,8 @@ final class EdgesOfSoundness {
         String each = "each VOLUME has a SIDE that is FIT and IN STEP";
         broken(each, "one is not in step, the other one is not fit", x, "store.volumes.2.sides.0.isInStep", false,
             "store.volumes.2.sides.1.isFit", false);
-        broken(each, "none is in step", x, "store.volumes.3.sides.0.isInStep", false, "store.volumes.3.sides.1.isInStep", false);
+        broken(each, "none is in step", x, "store.volumes.3.sides.0.isInStep", false,
+            "store.volumes.3.sides.1.isInStep", false);
         sound(each, "one is", made("breakSide 0 0; breakSide 1 1; breakSide 2 0; breakSide 3 1; mend 1 1; mend 2 0"));
     }
 

@@ -649,7 +649,8 @@ final class Model {
             if (queue.size() == 3) {
                 answer(of, 3);
             } else {
-                queue.add(of.isUrgent ? (int) queue.stream().filter(other -> other.isUrgent).count() : queue.size(), of);
+                long urgent = queue.stream().filter(other -> other.isUrgent).count();
+                queue.add(of.isUrgent ? (int) urgent : queue.size(), of);
             }
         }
     }

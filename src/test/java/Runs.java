@@ -16,9 +16,9 @@ final class Runs {
         + "zone 0 0 true; zone 0 4 true; zone 1 1 true; zone 1 6 true; login 0; login 1; login 4; login 6";
 
     /** The same with much of what an object keeps: commands on their way, notices, leaks, caches, a copy, marks. */
-    static final String RICH = PAIR + "; write 1 0 0 0 4 7; tick 9; copy 0 0; write 1 0 0 1 2 50; tick 9; drain 1; breakSide 1 1;"
-        + "write 1 0 1 0 2 5; tick 9; drain 3; manner 0 true true; link 2 3 4; leak 2 3 2; leak 0 5 0; deny 1 3 true;"
-        + "write 0 3 2 0 4 1; read 1 3 1 0 4; control 0 1 0 4; abort 0 1; tick 2; knock;";
+    static final String RICH = PAIR + "; write 1 0 0 0 4 7; tick 9; copy 0 0; write 1 0 0 1 2 50; tick 9; drain 1;"
+        + "breakSide 1 1; write 1 0 1 0 2 5; tick 9; drain 3; manner 0 true true; link 2 3 4; leak 2 3 2; leak 0 5 0;"
+        + "deny 1 3 true; write 0 3 2 0 4 1; read 1 3 1 0 4; control 0 1 0 4; abort 0 1; tick 2; knock;";
 
     private static final String REFUSED = "-9";
     private static final Set<String> QUESTIONS = Set.of("ofSwitch", "cost", "way", "far", "address", "names", "at",

@@ -1,6 +1,6 @@
 import java.util.List;
 
-/** Tests each of which is for one sentence of the document: its title names the part and has the words as they stand. */
+/** Tests, each for one sentence of the document: its title names the part and has the words as they stand there. */
 final class Sentences {
     static final String INDEX = "IndexOutOfBoundsException";
     static final String ARGUMENT = "IllegalArgumentException";
