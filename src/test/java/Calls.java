@@ -1,6 +1,7 @@
 import java.lang.reflect.Constructor;
 import java.lang.reflect.InvocationTargetException;
 import java.lang.reflect.Method;
+import java.lang.reflect.Modifier;
 import java.util.HashMap;
 import java.util.Map;
 
@@ -17,7 +18,9 @@ final class Calls {
             throw new IllegalStateException(type + " can not be made", e);
         }
         for (Method method : type.getDeclaredMethods()) {
-            methods.put(method.getName(), method);
+            if (Modifier.isPublic(method.getModifiers()) || !methods.containsKey(method.getName())) {
+                methods.put(method.getName(), method);
+            }
         }
     }
 

@@ -207,6 +207,14 @@ final class EdgesOfFrames {
         s.holds(by(22), rule, FAR,
             "leak 2 2 3; leak 2 2 3; control 0 0 0 4; tick 1; buffer 2 1 2 = 1>0; link 0 3 9; unlink 2 3; tick 1 = 1",
             "buffer 2 2 1 = 1>0; tick 1 = 1; buffer 2 1 0 = 1>0; told 0 0 = open; tick 3; told 0 0 = good");
+        s.holds(by(22), "FRAMES in BUFFERS at SWITCHES", "link 2 1 1; link 1 0 1; link 0 3 1; attach 0 2; attach 4 3",
+            "zone 0 0 true; zone 0 4 true; login 0; login 4; leak 2 0 3; leak 2 0 3; control 0 0 0 4; tick 2 = 3",
+            "buffer 2 1 0 = 1>0; link 2 3 9; unlink 0 3; unlink 2 1; buffer 2 1 0 = 1>0; tick 1 = 0; buffer 2 1 0 =",
+            "credits 2 1 0 = 2; told 0 0 = open; house 8 = 0");
+        s.holds(by(22), "FRAMES in BUFFERS at SWITCHES", "link 1 0 1; link 0 2 1; link 2 3 1; attach 0 1; attach 4 3",
+            "zone 0 0 true; zone 0 4 true; login 0; login 4; leak 2 2 3; leak 2 2 3; control 0 0 0 4; tick 2 = 3",
+            "buffer 2 0 2 = 1>0; link 1 3 9; unlink 2 3; unlink 1 0; buffer 2 0 2 = 1>0; tick 1 = 0; buffer 2 0 2 =",
+            "credits 2 0 2 = 2; told 0 0 = open; house 8 = 0");
         s.holds(by(22), "is at another SWITCH to which there is no WAY", FAR, HOLD_PORT,
             "control 0 0 0 4; tick 1; buffer 2 2 3 = 1>0; link 0 3 9; unlink 2 3; buffer 2 2 3 =; ofExchange 1 8 = 0",
             "control 0 1 0 4; tick 1; buffer 2 0 3 = 2>0; tick 2 = 0; buffer 2 0 3 = 2>0; recover; tick 3",
@@ -336,6 +344,9 @@ final class EdgesOfFrames {
         s.holds(by(22), rule, ACKED, HOLD_ANSWERS,
             "control 0 0 0 4; tick 2; row 4 = 1>0! 1<0; spoil 0 4 0 = -9; recover; tick 1; buffer 1 0 0 = 1>0!",
             "leak 1 0 0; spoil 1 0 0 = 1; tick 2; told 0 0 = good; house 8 = 0; ofExchange 1 12 = 0");
+        s.holds(by(22), rule, Runs.PAIR, HOLD_PORT,
+            "leak 2 0 1; leak 2 0 1; write 0 0 0 0 4 7; control 1 0 0 4; tick 3; buffer 0 0 0 = 1>0 1>1; row 0 = 1>2 1>3 1>4",
+            "abort 0 0; buffer 0 0 0 =; credits 0 0 0 = 2; row 0 =; house 8 = 1; buffer 0 1 0 = 2>0");
         s.holds(by(22), "and its COMMAND goes out of the QUEUE", Runs.BOTH_PORTS,
             "control 0 0 0 2; control 1 0 0 2; control 1 1 0 2; tick 3; queue 0 = 3; house 13 = 1; abort 1 1 = 3",
             "queue 0 =; house 13 = 0; control 0 0 0 3; tick 3; ofVolume 0 0 = -1; tick 9; ofVolume 0 0 = -1",
@@ -347,6 +358,10 @@ final class EdgesOfFrames {
             "leak 2 2 3; leak 2 2 3; write 0 0 0 0 4 7; tick 3; buffer 2 1 2 = 1>0 1>1; buffer 2 0 1 = 1>2",
             "link 0 3 9; fall 1; buffer 2 1 2 =; buffer 2 0 1 =; credits 2 1 2 = 2; credits 2 0 1 = 2",
             "row 0 = 1>3 1>4; told 0 0 = open; ofExchange 1 8 = 2");
+        s.holds(by(4), "of all LINES from it and to it are DROPPED", FAR,
+            "leak 2 0 1; leak 2 0 1; control 0 0 0 4; tick 1; buffer 0 0 0 = 1>0; link 0 3 9; fall 1; fall 2",
+            "buffer 0 0 0 = 1>0; tick 1 = 2; buffer 1 4 0 = 1>0; rise 1; fall 1; buffer 1 4 0 = 1>0; tick 2",
+            "told 0 0 = good");
         s.holds(by(4), "of all LINES from it and to it are DROPPED", FAR,
             "leak 2 2 3; leak 2 2 3; write 0 0 0 0 4 7; tick 3; link 0 3 9; fall 2; buffer 2 1 2 =",
             "buffer 2 0 1 = 1>2; house 8 = 3; rise 2; buffer 2 1 2 =; credits 2 2 3 = 0; house 12 = 2; tick 1",

@@ -18,7 +18,13 @@ final class EdgesOfSoundness {
         this.sentences = sentences;
     }
 
+    /** What is inside is free: of a program that is written in another way, only what it answers can be tried. */
     static void all(Sentences sentences) {
+        if (!Inside.hasOneOf(Blockfabric.class, "net", "traffic", "store")) {
+            System.out.println("promise 58 is not tried from inside, since no field is known");
+            sentences.need(PART, sentences.document().line(PART, "Returns "));
+            return;
+        }
         EdgesOfSoundness edges = new EdgesOfSoundness(sentences);
         edges.credits();
         edges.acked();
@@ -59,6 +65,8 @@ final class EdgesOfSoundness {
         sound(clause, "one without an ack", made(ONE + "manner 0 true false; write 0 0 0 0 4 7; tick 1"));
         Blockfabric later = made(ONE + "manner 0 true false; write 0 0 0 0 4 7; tick 5");
         broken(clause, "three without an ack, as fewer were taken", later, "traffic.exchanges.0.acks.0", 1);
+        Blockfabric held = made(ONE + "manner 0 true false; write 0 0 0 0 4 7; tick 2; leak 0 4 0; leak 0 4 0; tick 1");
+        broken(clause, "three frames left, one ack", held, "traffic.exchanges.0.acks.0", 0);
         Blockfabric back = made(ONE + "manner 0 true false; read 0 0 0 0 4; tick 3; leak 0 0 0; leak 0 0 0; tick 5");
         broken(clause, "three of the second sequence", back, "traffic.exchanges.0.left.1", 3);
         Blockfabric free = made(ONE + "leak 1 4 0; leak 1 4 0; leak 0 0 0; write 0 0 0 0 4 7; recover; tick 6");

@@ -85,6 +85,9 @@ final class EdgesOfSwitches {
             "link 0 1 1; unlink 0 1; link 1 2 1; ofSwitch 1 2 = 2; ofSwitch 2 2 = 1; link 2 3 1; ofSwitch 2 2 = 1",
             "ofSwitch 3 2 = 3; unlink 1 2; unlink 2 3; link 1 3 1; link 0 1 1; ofSwitch 0 2 = 1; ofSwitch 1 2 = 2",
             "ofSwitch 3 2 = 3");
+        s.holds(by(2), "the smallest one",
+            "link 0 1 1; link 2 3 1; unlink 0 1; unlink 2 3; ofSwitch 1 2 = 2; ofSwitch 3 2 = 2; link 1 3 1",
+            "ofSwitch 1 2 = 2; ofSwitch 3 2 = 1");
         s.holds(by(2), "whether it was looked at or not",
             "link 0 2 1; ofSwitch 2 2 = 2; link 0 1 1; ofSwitch 1 2 = 3; ofSwitch 2 2 = 2; link 1 3 1",
             "ofSwitch 3 2 = 4");
@@ -334,6 +337,10 @@ final class EdgesOfSwitches {
             "ofSwitch 1 5 = 2; row 0 = 1>2 1>3 1>4; recover; leak 2 1 0; leak 2 1 0; tick 3; buffer 0 4 0 = 1>0! 1>1!",
             "buffer 2 0 1 =; ofSwitch 1 5 = 2; ofSwitch 0 6 = 3; ofSwitch 1 6 = 48; ofSwitch 2 6 = 0; fall 1",
             "ofSwitch 1 6 = 48; ofSwitch 1 5 = 0");
+        s.holds("promise 33", "5 FRAMES and ACKS in BUFFERS at it", Runs.PAIR,
+            "leak 2 0 1; leak 2 0 1; control 0 0 0 4; control 1 0 0 4; control 1 1 0 4; tick 2; buffer 0 0 0 = 1>0",
+            "buffer 0 1 0 = 2>0 3>0; ofSwitch 0 5 = 3; ofSwitch 1 5 = 0; ofSwitch 2 5 = 0; ofSwitch 3 5 = 0; abort 0 0",
+            "ofSwitch 0 5 = 2; credits 0 0 0 = 2");
         s.holds("promise 33", "5 FRAMES and ACKS in BUFFERS at it", Runs.PAIR,
             "control 0 0 0 4; tick 1; buffer 1 4 0 = 1>0; ofSwitch 1 5 = 0; ofSwitch 0 5 = 0; tick 1",
             "buffer 1 0 0 = 1<0; ofSwitch 0 5 = 0");

@@ -7,6 +7,15 @@ final class Inside {
     private Inside() {
     }
 
+    static boolean hasOneOf(Class<?> type, String... names) {
+        for (Field field : type.getDeclaredFields()) {
+            if (List.of(names).contains(field.getName())) {
+                return true;
+            }
+        }
+        return false;
+    }
+
     @SuppressWarnings("unchecked")
     static List<Object> list(Object of, String path) {
         return (List<Object>) get(of, path);
