@@ -345,7 +345,8 @@ final class EdgesOfFrames {
             "control 0 0 0 4; tick 2; row 4 = 1>0! 1<0; spoil 0 4 0 = -9; recover; tick 1; buffer 1 0 0 = 1>0!",
             "leak 1 0 0; spoil 1 0 0 = 1; tick 2; told 0 0 = good; house 8 = 0; ofExchange 1 12 = 0");
         s.holds(by(22), rule, Runs.PAIR, HOLD_PORT,
-            "leak 2 0 1; leak 2 0 1; write 0 0 0 0 4 7; control 1 0 0 4; tick 3; buffer 0 0 0 = 1>0 1>1; row 0 = 1>2 1>3 1>4",
+            "leak 2 0 1; leak 2 0 1; write 0 0 0 0 4 7; control 1 0 0 4; tick 3; buffer 0 0 0 = 1>0 1>1",
+            "row 0 = 1>2 1>3 1>4",
             "abort 0 0; buffer 0 0 0 =; credits 0 0 0 = 2; row 0 =; house 8 = 1; buffer 0 1 0 = 2>0");
         s.holds(by(22), "and its COMMAND goes out of the QUEUE", Runs.BOTH_PORTS,
             "control 0 0 0 2; control 1 0 0 2; control 1 1 0 2; tick 3; queue 0 = 3; house 13 = 1; abort 1 1 = 3",
