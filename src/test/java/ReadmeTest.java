@@ -71,8 +71,9 @@ public final class ReadmeTest {
     }
 
     private static List<String> output(Path place, String command) throws IOException, InterruptedException {
-        Process process = new ProcessBuilder(command.split(" ")).directory(place.toFile()).redirectErrorStream(true)
-            .start();
+        ProcessBuilder builder = new ProcessBuilder(command.split(" ")).directory(place.toFile());
+        // What java itself tells of its options must not count as an answer.
+        Process process = builder.redirectError(ProcessBuilder.Redirect.INHERIT).start();
         List<String> told = new String(process.getInputStream().readAllBytes()).lines().toList();
         int code = process.waitFor();
         if (code == 0) {
